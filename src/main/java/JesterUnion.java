@@ -238,7 +238,16 @@ public final class JesterUnion {
         before.take(now);
         boolean isRight = text.read();
         text.signs.setLength(0);
-        return isRight ? remember(carryOrdersOut()) : FAULT_BASE - text.place;
+        if (!isRight) {
+            return FAULT_BASE - text.place;
+        }
+        for (int order = 0; order < text.count; order++) {
+            if (carryOrderOut(order) < 0) {
+                now.take(before);
+                return refuse(ORDER_FAILS, order);
+            }
+        }
+        return remember(text.count);
     }
 
     public int tell(int fool) {
@@ -483,16 +492,6 @@ public final class JesterUnion {
         int held = now.patents();
         now.hour += hours;
         return held - now.patents();
-    }
-
-    private int carryOrdersOut() {
-        for (int order = 0; order < text.count; order++) {
-            if (carryOrderOut(order) < 0) {
-                now.take(before);
-                return refuse(ORDER_FAILS, order);
-            }
-        }
-        return text.count;
     }
 
     private int carryOrderOut(int order) {
@@ -947,7 +946,7 @@ public final class JesterUnion {
                 return 0;
             }
             if (isBarred(fool, joke)) {
-                gain(jokes.owner[joke], pay(fool, PATENT_FINE));
+                payFine(fool, jokes.owner[joke]);
                 return 0;
             }
             return perform(fool, joke, throne);
@@ -957,38 +956,35 @@ public final class JesterUnion {
             int laughs = laughs(fool, joke, throne);
             jokes.addTelling(joke, throne);
             fools.told[fool]++;
-            if (laughs < LAUGHS_WITHOUT_SLIP) {
-                slip(fool);
-            } else {
+            if (laughs >= LAUGHS_WITHOUT_SLIP) {
                 paid[throne] += laughs;
                 gain(fool, laughs);
                 fools.tears[fool] += Math.max(0, laughs - LAUGHS_WITHOUT_TEAR);
+                return laughs;
             }
-            return laughs;
-        }
-
-        private void slip(int fool) {
             fools.slips[fool]++;
             if (fools.insured[fool] > 0) {
                 fools.insured[fool]--;
             } else {
                 payUnion(fool, SLIP_FINE);
             }
+            return laughs;
         }
 
         // ---- coins
 
-        /** Takes as many of the coins as there are, and returns how many. */
-        private int pay(int fool, int coins) {
+        /** Pays as many of the coins as there are, and returns how many. */
+        int payUnion(int fool, int coins) {
             int paidCoins = Math.min(coins, fools.coins[fool]);
             fools.coins[fool] -= paidCoins;
+            union += paidCoins;
             return paidCoins;
         }
 
-        int payUnion(int fool, int coins) {
-            int paidCoins = pay(fool, coins);
-            union += paidCoins;
-            return paidCoins;
+        private void payFine(int fool, int owner) {
+            int paidCoins = Math.min(PATENT_FINE, fools.coins[fool]);
+            fools.coins[fool] -= paidCoins;
+            gain(owner, paidCoins);
         }
 
         private void gain(int fool, int coins) {

@@ -4,11 +4,13 @@ public final class AccountsTest {
         promise29();
         promise29Stays();
         promise30();
+        promise30Full();
         promise31();
         promise32();
         promise33();
         promise34();
         promise34EveryChange();
+        promise34Patent();
         promise34NoChange();
         promise35And36();
         promise36Stays();
@@ -157,11 +159,17 @@ public final class AccountsTest {
         Due.dueText(call + " is undone", Due.state(x), before);
     }
 
+    /** Its first booking brings 14 coins that are lost, its second is a slip, its third costs a fine. */
     private static JesterUnion busy() {
-        JesterUnion x = Due.union(Due.row(9, 8), Due.row(9, 5));
-        Due.perform(x, 0, 0, 0);
+        JesterUnion x = Due.union(Due.row(9, 8, 1), Due.row(9, 5, 1));
+        for (int throne = 0; throne < 4; throne++) {
+            Due.perform(x, 0, 0, throne);
+        }
+        Due.perform(x, 0, 1, 0);
+        x.book(2, 2, 0, 7);
+        x.book(2, 0, 1, 8);
+        x.patent(0, 0, 9);
         x.book(0, 0, 0, 5);
-        x.book(1, 0, 1, 7);
         return x;
     }
 
@@ -173,7 +181,7 @@ public final class AccountsTest {
         x = busy();
         dueUndone("joke", x, x.joke(5), before);
         x = busy();
-        dueUndone("patent", x, x.patent(0, 0, 5), before);
+        dueUndone("patent", x, x.patent(0, 1, 5), before);
         x = busy();
         dueUndone("book", x, x.book(1, 1, 2, 6), before);
         x = busy();
@@ -187,19 +195,74 @@ public final class AccountsTest {
         x = busy();
         dueUndone("pass", x, x.pass(5), before);
         x = busy();
-        dueUndone("run", x, Due.run(x, "f5;n;n;x1+"), before);
+        dueUndone("run", x, Due.run(x, "f5;n;n;n;x1+"), before);
+        x = busy();
+        String beforeLast = Due.state(x);
+        for (int change = 0; change < 3; change++) {
+            x.next();
+        }
+        for (int change = 0; change < 3; change++) {
+            x.undo();
+        }
+        Due.dueText("three are undone", Due.state(x), beforeLast);
+    }
+
+    private static void promise34Patent() {
+        JesterUnion x = busy();
+        x.next();
+        x.next();
+        x.next();
+        x.pass(1);
+        Due.due("by another, when it has ended", x.patent(1, 0, 5), 14);
+        Due.due("the fool whose patent it is", x.jokeOf(0, 1), 1);
+        x.undo();
+        Due.due("by none again", x.jokeOf(0, 1), JesterUnion.NOTHING);
+        x.undo();
+        Due.due("the fool whose patent it was", x.jokeOf(0, 1), 0);
+        Due.due("for the hour that it held yet", x.jokeOf(0, 2), 1);
+    }
+
+    /** As many fools, jokes and bookings as there can be. */
+    private static void promise30Full() {
+        JesterUnion x = Due.union(Due.row(9, 8, 7, 6, 5, 4), Due.row(1, 2, 3, 4, 5, 6, 7, 8, 9, 8, 7, 6));
+        for (int place = 0; place < 10; place++) {
+            Due.due("the place", x.book(place % 6, place, place % 4, place), place);
+        }
+        Due.due("the last fool", x.ranked(5), 5);
+        Due.due("no fool more", x.ranked(6), JesterUnion.NONE);
+        Due.due("the last joke", x.stalest(11), 0);
+        Due.due("no joke more", x.stalest(12), JesterUnion.NONE);
+        Due.due("the best", x.best(5, 3), 8);
+        Due.due("the best again", x.bestAgain(5, 3), 8);
+        Due.due("no end", x.ends(), JesterUnion.NOTHING);
+        Due.due("no end again", x.endsAgain(), JesterUnion.NOTHING);
+        Due.due("a patent of the last", x.patent(5, 11, 20), 20);
+        Due.due("whose patents", x.foolOf(5, 4), 1);
+        Due.due("its end", x.ends(), 20);
+        Due.due("its end again", x.endsAgain(), 20);
+        Due.due("balanced", x.isBalanced(), 1);
+        Due.due("the forecast", x.forecast(), 6 * 10 + 3 * 16 + 14);
+        for (int place = 0; place < 10; place++) {
+            Due.due("account(2)", x.account(2), 10 - place);
+            x.next();
+        }
+        Due.dueRefused("no booking more", x, x.next(), 11, 10);
+        Due.due("balanced still", x.isBalanced(), 1);
     }
 
     private static void promise34NoChange() {
         JesterUnion x = busy();
+        x.undo();
+        x.undo();
         int changes = x.account(14);
+        Due.due("there is room for a change", changes, 6);
         x.fool(0);
         x.joke(10);
         x.patent(0, 0, 49);
         x.insure(5);
         x.audit(1);
         x.exempt(0, 0);
-        x.book(0, 0, 0, 5);
+        x.book(2, 0, 0, 7);
         x.pass(24);
         Due.run(x, "n;n;n");
         Due.run(x, "n;");

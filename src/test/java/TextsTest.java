@@ -191,6 +191,9 @@ public final class TextsTest {
     }
 
     private static void promise26() {
+        JesterUnion one = Due.union(Due.row(9), Due.row(3));
+        Due.perform(one, 0, 0, 0);
+        dueLine("with a tear", one, one.tell(0), "0s9$22~1");
         JesterUnion x = Due.union(Due.row(9, 1), Due.row(9, 1));
         Due.due("no such fool", x.tell(2), JesterUnion.NONE);
         Due.due("no such fool, below 0", x.tell(-1), JesterUnion.NONE);

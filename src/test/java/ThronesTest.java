@@ -294,6 +294,7 @@ public final class ThronesTest {
         Due.dueRefused("beyond it", x, x.pass(1), 5, 2);
         x.next();
         Due.due("up to the one after it", x.pass(5), 0);
+        Due.dueRefused("beyond the only one", x, x.pass(1), 5, 3);
     }
 
     private static void promise15() {
