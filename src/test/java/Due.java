@@ -2,15 +2,36 @@
 final class Due {
     private static int wrong = 0;
     private static int asked = 0;
+    private static int sentences = 0;
+    private static String sentence = "";
 
     private Due() {
+    }
+
+    /** What is asked from now on is asked for these words of a promise. */
+    static void promise(int promise, String words) {
+        begin("Promise " + promise + ", \"" + words + "\": ", Doc.says(promise, words));
+    }
+
+    /** What is asked from now on is asked for these words of the terms, as they bind a promise. */
+    static void terms(int promise, String words) {
+        begin("Promise " + promise + ", by the terms, \"" + words + "\": ", Doc.says(Doc.TERMS, words));
+    }
+
+    private static void begin(String name, boolean doesDocumentSaySo) {
+        sentence = name;
+        sentences++;
+        if (!doesDocumentSaySo) {
+            wrong++;
+            System.out.println(sentence + "the document does not say so");
+        }
     }
 
     static void due(String call, long got, long want) {
         asked++;
         if (got != want) {
             wrong++;
-            System.out.println(call + " answered " + got + ", due is " + want);
+            System.out.println(sentence + call + " answered " + got + ", due is " + want);
         }
     }
 
@@ -18,7 +39,7 @@ final class Due {
         asked++;
         if (Double.compare(got, want) != 0) {
             wrong++;
-            System.out.println(call + " answered " + got + ", due is " + want);
+            System.out.println(sentence + call + " answered " + got + ", due is " + want);
         }
     }
 
@@ -26,7 +47,7 @@ final class Due {
         asked++;
         if (!got.equals(want)) {
             wrong++;
-            System.out.println(call + " answered \"" + got + "\", due is \"" + want + "\"");
+            System.out.println(sentence + call + " answered \"" + got + "\", due is \"" + want + "\"");
         }
     }
 
@@ -35,7 +56,8 @@ final class Due {
     }
 
     static void finish() {
-        System.out.println(asked + " answers, " + wrong + " not as due");
+        String named = sentences > 0 ? " for " + sentences + " sentences" : "";
+        System.out.println(asked + " answers" + named + ", " + wrong + " not as due");
         if (wrong != 0 || asked == 0) {
             System.exit(1);
         }
@@ -62,6 +84,36 @@ final class Due {
         due(call, got, JesterUnion.REFUSED);
         due(call + ", its reason", x.reason(false), reason);
         due(call + ", its detail", x.reason(true), detail);
+    }
+
+    static void dueNone(String call, int got) {
+        due(call, got, JesterUnion.NONE);
+    }
+
+    static void dueBad(String call, int got) {
+        due(call, got, JesterUnion.BAD);
+    }
+
+    /** Six fools and twelve jokes, as many as can be there, all of one skill and one wit. */
+    static JesterUnion full(int skill, int wit) {
+        JesterUnion x = new JesterUnion();
+        for (int fool = 0; fool < 6; fool++) {
+            x.fool(skill);
+        }
+        for (int joke = 0; joke < 12; joke++) {
+            x.joke(wit);
+        }
+        return x;
+    }
+
+    /** Has a fool spend coins on patents of jokes that are free, the last first, until so many are left. */
+    static void leave(JesterUnion x, int fool, int coins) {
+        for (int joke = x.account(1) - 1; joke >= 0 && x.foolOf(fool, 1) > coins; joke--) {
+            if (x.jokeOf(joke, 1) == JesterUnion.NOTHING) {
+                x.patent(fool, joke, 2 * Math.min(24, x.foolOf(fool, 1) - coins));
+            }
+        }
+        due("the coins that are left", x.foolOf(fool, 1), coins);
     }
 
     /** Books and carries out, at the hour that it is. */

@@ -192,6 +192,7 @@ public final class ModelTest {
     private void numbers() {
         Due.dueNumber(name + "meanWit()", x.meanWit(), m.meanWit());
         Due.dueNumber(name + "slipShare()", x.slipShare(), m.slipShare());
+        calls += 2;
         same("isBalanced()", x.isBalanced(), 1);
         same("reason(false)", x.reason(false), m.reason(false));
         same("reason(true)", x.reason(true), m.reason(true));

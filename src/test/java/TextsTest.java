@@ -129,15 +129,15 @@ public final class TextsTest {
     }
 
     private static void promise25Refused() {
-        JesterUnion x = Due.union(Due.row(5, 6), Due.row(5, 6));
-        String before = Due.state(x);
         for (String text : new String[] {"f0", "j0", "p0:0*0", "p0:0*49", "w0", "w25", "p2:0*5", "p0:2*5", "i2", "a9",
             "x4+", "b0:0@4=5", "b2:0@0=5", "b0:12@0=5", "n", "a0", "x0-", "p0:0*21"}) {
+            JesterUnion x = Due.union(Due.row(5, 6), Due.row(5, 6));
+            String before = Due.state(x);
             dueFailure(x, text, 0);
             dueFailure(x, "w1;" + text, 1);
             dueFailure(x, "w1;x3+;" + text + ";n", 2);
+            Due.dueText("nothing is different", Due.state(x), before);
         }
-        Due.dueText("nothing is different", Due.state(x), before);
     }
 
     private static void promise25AllOrNone() {
