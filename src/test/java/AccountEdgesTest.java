@@ -24,6 +24,7 @@ public final class AccountEdgesTest {
         promise32WithoutJokes();
         promise33Share();
         promise33NoneTold();
+        promise34UndoesEach();
         promise34HowMany();
         promise34Nothing();
         promise35AllThatChanges();
@@ -454,6 +455,61 @@ public final class AccountEdgesTest {
 
     // ---- promise 34
 
+    /**
+     * Fool 0 has 97 coins and a patent of joke 0 that ends in the hour 4; a booking by which coins are lost, one that
+     * costs a fine, and a slip wait for the hours 1, 2 and 5.
+     */
+    private static JesterUnion busy() {
+        JesterUnion x = Due.union(Due.row(9, 1), Due.row(9, 8, 1));
+        for (int throne = 0; throne < 4; throne++) {
+            Due.perform(x, 0, 0, throne);
+        }
+        Due.perform(x, 0, 1, 0);
+        x.book(0, 1, 1, 1);
+        x.book(1, 0, 1, 2);
+        x.book(1, 2, 1, 5);
+        x.patent(0, 0, 4);
+        return x;
+    }
+
+    private static void dueUndone(String call, JesterUnion x, int got, int want, String before) {
+        Due.due(call, got, want);
+        Due.due(call + " makes nothing different", Due.state(x).equals(before) ? 1 : 0, 0);
+        Due.due("what can be undone before " + call, x.undo(), 7);
+        Due.dueText("undone: " + call, Due.state(x), before);
+    }
+
+    private static void promise34UndoesEach() {
+        Due.promise(34, "Undoes the latest change");
+        String before = Due.state(busy());
+        JesterUnion x = busy();
+        dueUndone("fool", x, x.fool(5), 2, before);
+        dueUndone("joke", x = busy(), x.joke(5), 3, before);
+        dueUndone("patent", x = busy(), x.patent(1, 2, 5), 5, before);
+        dueUndone("insure", x = busy(), x.insure(1), 1, before);
+        dueUndone("audit", x = busy(), x.audit(0), 11, before);
+        dueUndone("exempt", x = busy(), x.exempt(2, 1), 1, before);
+        dueUndone("book", x = busy(), x.book(0, 0, 0, 0), 0, before);
+        dueUndone("next", x = busy(), x.next(), 17, before);
+        dueUndone("pass", x = busy(), x.pass(1), 0, before);
+        dueUndone("run", x = busy(), Due.run(x, "n;n;n;a0;i1"), 5, before);
+        x = busy();
+        x.next();
+        before = Due.state(x);
+        dueUndone("next by a fine", x, x.next(), 0, before);
+        x = busy();
+        x.next();
+        x.next();
+        x.pass(2);
+        before = Due.state(x);
+        dueUndone("patent of what was another's", x, x.patent(1, 0, 1), 5, before);
+        x.undo();
+        Due.due("whose it is in its last hours again", x.jokeOf(0, 1), 0);
+        x.pass(3);
+        before = Due.state(x);
+        dueUndone("next by a slip", x, x.next(), 2, before);
+    }
+
     private static void promise34HowMany() {
         Due.promise(34, "Returns the number of changes that can still be undone");
         for (int changes = 1; changes <= 10; changes++) {
@@ -489,6 +545,11 @@ public final class AccountEdgesTest {
             Due.due("the later of two", x.undo(), Math.min(turn + 1, 7));
         }
         Due.due("the hour", x.account(3), 20);
+        for (int left = 6; left >= 0; left--) {
+            Due.due("the earlier of two", x.undo(), left);
+            Due.due("the hour then", x.account(3), 13 + left);
+        }
+        Due.due("no more than eight", x.undo(), JesterUnion.NOTHING);
     }
 
     // ---- promises 35 and 36
@@ -498,6 +559,7 @@ public final class AccountEdgesTest {
         JesterUnion x = Due.union(Due.row(9, 1), Due.row(9, 3));
         Due.perform(x, 0, 0, 3);
         Due.perform(x, 1, 1, 3);
+        x.insure(1);
         x.insure(1);
         x.book(0, 1, 2, 5);
         x.patent(0, 0, 9);
@@ -551,6 +613,14 @@ public final class AccountEdgesTest {
             Due.due("not told", x.told(0, 0), 0);
             Due.due("the hour", x.account(3), 0);
         }
+        x = Due.union(Due.row(5, 5), Due.row(5));
+        x.patent(0, 0, 2);
+        x.save();
+        x.pass(2);
+        x.patent(1, 0, 9);
+        x.restore();
+        Due.due("whose patent it was", x.jokeOf(0, 1), 0);
+        Due.due("for how many hours", x.jokeOf(0, 2), 2);
     }
 
     private static void promise36NothingCanBeUndone() {

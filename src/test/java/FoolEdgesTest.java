@@ -430,6 +430,11 @@ public final class FoolEdgesTest {
         Due.due("two of another", x.foolOf(1, 4), 2);
         x.pass(1);
         Due.due("none when both have ended", x.foolOf(0, 4), 0);
+        x = Due.full(5, 5);
+        x.patent(5, 0, 1);
+        x.patent(5, 11, 1);
+        Due.due("the first and the last of twelve jokes", x.foolOf(5, 4), 2);
+        Due.due("none of the first fool", x.foolOf(0, 4), 0);
     }
 
     private static void promise7Bookings() {

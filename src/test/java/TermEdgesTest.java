@@ -46,6 +46,7 @@ public final class TermEdgesTest {
         paidWithWhatWasLost();
         tooFewCoins();
         slipReturnsLaughs();
+        lastCallOfAll();
         Due.finish();
     }
 
@@ -793,5 +794,15 @@ public final class TermEdgesTest {
         Due.due("slips", x.foolOf(0, 7), 5);
         x.insure(1);
         Due.due("2, insured", Due.perform(x, 1, 0, 0), 2);
+    }
+
+    /** An object is used for at most 512 calls: the last of them is answered as the first. */
+    private static void lastCallOfAll() {
+        Due.promise(14, "Lets hours pass");
+        JesterUnion x = new JesterUnion();
+        for (int call = 1; call <= 511; call++) {
+            Due.due("call " + call, x.pass(24), 0);
+        }
+        Due.due("the last call", x.account(3), 511 * 24);
     }
 }

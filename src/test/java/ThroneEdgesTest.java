@@ -405,6 +405,10 @@ public final class ThroneEdgesTest {
         dueOrder("by fools", x, "2:0@0=5 0:2@0=6 1:1@0=6 0:3@0=7");
         Due.due("the same hour and the same joke", x.book(2, 1, 0, 6), 3);
         dueOrder("by fools again", x, "2:0@0=5 0:2@0=6 1:1@0=6 2:1@0=6 0:3@0=7");
+        x.undo();
+        Due.due("the same hour, one wit less and a higher fool", x.book(2, 0, 0, 6), 3);
+        x.undo();
+        Due.due("the same hour, more wit and a higher fool", x.book(2, 3, 0, 6), 1);
     }
 
     // ---- promise 13
